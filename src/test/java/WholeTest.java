@@ -1,0 +1,107 @@
+/** Promises 50 and 51, checksum and isTrue, and that a call that throws changes nothing. */
+public final class WholeTest {
+  private static Segueworks worked() {
+    Segueworks x = new Segueworks();
+    x.reel();
+    x.wave(0, 60, 7, 9000);
+    x.cut(0, 0, 30);
+    x.silence(4);
+    x.splice(0, 1, 3);
+    x.gain(2, 350);
+    x.back(3);
+    x.limit(4, 2000, 9, 7);
+    x.resample(5, 4, 3);
+    x.dither(6, 99);
+    x.add(7, 3);
+    x.add(1, 0);
+    x.add(3, 100);
+    return x;
+  }
+
+  private static void sums(Due due) {
+    Segueworks x = new Segueworks();
+    due.is("50 at first", 7, () -> x.checksum());
+    x.reel();
+    x.sample(0, 9);
+    x.sample(0, -4);
+    due.is("50 reels aside", 7, () -> x.checksum());
+    x.cut(0, 0, 2);
+    long piece = (7 * 31 + 2) * 31 - 4;
+    due.is("50 a piece", piece, () -> x.checksum());
+    x.add(0, 3);
+    long item = piece * 31;
+    due.is("50 an item", item, () -> x.checksum());
+    x.engrave(0, 99);
+    long lacquer = item * 31 - 1;
+    due.is("50 a lacquer", lacquer, () -> x.checksum());
+    x.father(0);
+    x.mother(0);
+    due.is("50 fathers and mothers aside", lacquer, () -> x.checksum());
+    x.stamper(0);
+    due.is("50 a stamper", lacquer * 31, () -> x.checksum());
+    x.press(0, 17);
+    due.is("50 its discs", lacquer * 31 + 17, () -> x.checksum());
+    x.edition(0);
+    due.is("50 an edition", (lacquer * 31 + 17) * 31 + 9 * 4 - 4 * 5, () -> x.checksum());
+    x.damage(0, 3, 1);
+    due.is("50 a damaged one", (lacquer * 31 + 17) * 31 - 4 * 5, () -> x.checksum());
+    for (int i = 0; i < 23; i++) x.silence(1);
+    long many = piece;
+    for (int i = 0; i < 23; i++) many = (many * 31 + 1) * 31;
+    long round = (((many * 31 * 31 - 1) * 31) + 17) * 31 - 20;
+    due.is("50 goes round", round, () -> x.checksum());
+  }
+
+  private static void truths(Due due) {
+    due.is("51 a new one", true, () -> new Segueworks().isTrue());
+    Segueworks x = worked();
+    due.is("51 worked", true, () -> x.isTrue());
+    x.wave(0, 60, 3, 1);
+    due.is("51 a longer reel", true, () -> x.isTrue());
+    x.replace(0, 2);
+    x.edition(5);
+    x.edition(-30);
+    due.is("51 replaced", true, () -> x.isTrue());
+    x.split(0, 0, 60);
+    x.split(0, 1, 40);
+    x.replace(2, 1);
+    due.is("51 split", true, () -> x.isTrue());
+    for (int from = 0; from < 300; from += 99) x.damage(1, from, 99);
+    due.none("51 nothing read", () -> x.match(1, 1));
+    due.is("51 nothing read", true, () -> x.isTrue());
+  }
+
+  private static void throwing(Due due) {
+    Segueworks x = worked();
+    x.edition(0);
+    x.engrave(0, 99999);
+    long before = x.checksum();
+    for (int n = -2; n < 30; n += 29) {
+      int k = n;
+      due.bounds("cut(0, 1, 60)", () -> x.cut(0, 1, 60));
+      due.argument("silence(0)", () -> x.silence(0));
+      due.bounds("splice", () -> x.splice(0, k, 0));
+      due.bounds("gain", () -> x.gain(k, 0));
+      due.bounds("back", () -> x.back(k));
+      due.bounds("add", () -> x.add(k, 0));
+      due.bounds("replace", () -> x.replace(0, k));
+      due.argument("engrave", () -> x.engrave(0, k * 100000));
+      due.unsupported("engrave no fit", () -> x.engrave(0, 1));
+      due.bounds("father", () -> x.father(k));
+      due.argument("edition", () -> x.edition(k * 31));
+      due.bounds("repair", () -> x.repair(0, k));
+      due.argument("damage", () -> x.damage(0, 0, k * 200));
+    }
+    due.is("nothing changed", before, () -> x.checksum());
+    due.is("reelLength(0)", 60, () -> x.reelLength(0));
+    due.is("isTrue()", true, () -> x.isTrue());
+  }
+
+  public static void main(String[] args) {
+    Due due = new Due();
+    sums(due);
+    truths(due);
+    throwing(due);
+    due.end();
+  }
+}
