@@ -55,6 +55,15 @@ public final class EditionsTest {
     due.is("34 beside it", 3, () -> x.editionAt(0, 2));
   }
 
+  private static void shorterProgram(Due due) {
+    Segueworks x = program(1, 2, 3);
+    x.replace(0, x.cut(0, 1, 1));
+    x.edition(-1);
+    rowIs(due, "33 of a program that was longer", x, 0, 0);
+    x.replace(0, 0);
+    rowIs(due, "33 of a program that is longer", x, 0, 0);
+  }
+
   private static void sums(Due due) {
     Segueworks x = program(10, 20, 30);
     x.edition(0);
@@ -182,6 +191,8 @@ public final class EditionsTest {
     x.edition(0);
     int other = editionOf(x, 1, 9, 3, 8);
     int longer = editionOf(x, 1, 2, 3, 4, 5);
+    int first = editionOf(x, 7, 2, 3, 4);
+    due.is("38 at 0", 0, () -> x.differsAt(0, first));
     due.is("38 the first", 1, () -> x.differsAt(0, other));
     x.damage(other, 1, 1);
     due.is("38 where both are read", 3, () -> x.differsAt(0, other));
@@ -191,7 +202,7 @@ public final class EditionsTest {
     due.is("38 longer", 4, () -> x.differsAt(0, longer));
     due.is("38 shorter", 4, () -> x.differsAt(longer, 0));
     due.is("38 ahead of that", 3, () -> x.differsAt(longer, other));
-    due.bounds("38 no edition", () -> x.differsAt(0, 3));
+    due.bounds("38 no edition", () -> x.differsAt(0, 4));
     due.bounds("38 no edition at first", () -> x.differsAt(-1, 0));
   }
 
@@ -224,6 +235,10 @@ public final class EditionsTest {
     due.is("40 by itself", 0, () -> x.repair(0, 0));
     due.is("40 at an offset", 1, () -> x.repair(0, 2));
     due.is("40 it gets then", -3, () -> x.editionAt(0, 1));
+    x.damage(0, 3, 1);
+    x.damage(2, 4, 1);
+    due.is("40 not read at the offset", 0, () -> x.repair(0, 2));
+    x.repair(0, 1);
     x.damage(0, 9, 1);
     due.is("40 the other one ends ahead", 0, () -> x.repair(0, 2));
     x.damage(1, 0, 3);
@@ -265,6 +280,7 @@ public final class EditionsTest {
   public static void main(String[] args) {
     Due due = new Due();
     editions(due);
+    shorterProgram(due);
     sums(due);
     matches(due);
     farMatches(due);

@@ -83,6 +83,23 @@ public final class PlatingTest {
     due.is("28 a lacquer that failed stays so", 2400, () -> x.failedAt(1));
   }
 
+  private static void sidesApart(Due due) {
+    Segueworks x = silent();
+    x.reel();
+    x.sample(0, 30000);
+    x.add(x.cut(0, 0, 1), 0);
+    x.add(0, 0);
+    // widths 2, 9 and 2
+    x.engrave(0, 10);
+    x.engrave(1, 10);
+    x.engrave(2, 10);
+    x.engrave(0, 11);
+    due.is("28 the side ahead", -1, () -> x.failedAt(0));
+    due.is("28 the side itself", 0, () -> x.failedAt(1));
+    due.is("28 the side behind", -1, () -> x.failedAt(2));
+    due.is("28 on one side", 1, () -> x.failedAt(3));
+  }
+
   private static void plates(Due due) {
     Segueworks x = silent();
     x.reel();
@@ -171,6 +188,7 @@ public final class PlatingTest {
     engraves(due);
     fails(due);
     lateFails(due);
+    sidesApart(due);
     plates(due);
     allPlates(due);
     discs(due);

@@ -1,3 +1,6 @@
+import java.lang.reflect.Array;
+import java.lang.reflect.Field;
+
 /** Promises 50 and 51, checksum and isTrue, and that a call that throws changes nothing. */
 public final class WholeTest {
   private static Segueworks worked() {
@@ -46,9 +49,10 @@ public final class WholeTest {
     x.damage(0, 3, 1);
     due.is("50 a damaged one", (lacquer * 31 + 17) * 31 - 4 * 5, () -> x.checksum());
     for (int i = 0; i < 23; i++) x.silence(1);
+    x.add(5, 0);
     long many = piece;
     for (int i = 0; i < 23; i++) many = (many * 31 + 1) * 31;
-    long round = (((many * 31 * 31 - 1) * 31) + 17) * 31 - 20;
+    long round = ((((many * 31 * 31 + 5) * 31 - 1) * 31) + 17) * 31 - 20;
     due.is("50 goes round", round, () -> x.checksum());
   }
 
@@ -69,6 +73,41 @@ public final class WholeTest {
     for (int from = 0; from < 300; from += 99) x.damage(1, from, 99);
     due.none("51 nothing read", () -> x.match(1, 1));
     due.is("51 nothing read", true, () -> x.isTrue());
+  }
+
+  private static Object heldBy(Object of, String field) {
+    try {
+      Field held = of.getClass().getDeclaredField(field);
+      held.setAccessible(true);
+      return held.get(of);
+    } catch (ReflectiveOperationException e) {
+      throw new IllegalStateException(e);
+    }
+  }
+
+  /** Bends one number inside the object: what no call does, so that isTrue has to tell. */
+  private static void bent(Due due, String what, Segueworks x, Object row, int at) {
+    Array.setInt(row, at, Array.getInt(row, at) + 101);
+    due.is("51 with a bent " + what, false, () -> x.isTrue());
+    Array.setInt(row, at, Array.getInt(row, at) - 101);
+    due.is("51 without a bent " + what, true, () -> x.isTrue());
+  }
+
+  private static void untruths(Due due) {
+    Segueworks x = worked();
+    Object pieces = heldBy(x, "pieces");
+    for (int i = 0; i < 8; i++) {
+      Object samples = heldBy(Array.get(pieces, i), "samples");
+      bent(due, "first sample of piece " + i, x, samples, 0);
+      bent(due, "last sample of piece " + i, x, samples, Array.getLength(samples) - 1);
+    }
+    Object program = heldBy(x, "program");
+    Object row = heldBy(program, "row");
+    bent(due, "gap of the program", x, row, 0);
+    bent(due, "sample of the program", x, row, x.startOf(0));
+    bent(due, "end of the program", x, row, x.programLength() - 1);
+    Object item = Array.get(heldBy(program, "items"), 2);
+    bent(due, "split", x, heldBy(item, "hundredths"), 7);
   }
 
   private static void throwing(Due due) {
@@ -101,6 +140,7 @@ public final class WholeTest {
     Due due = new Due();
     sums(due);
     truths(due);
+    untruths(due);
     throwing(due);
     due.end();
   }
