@@ -750,7 +750,10 @@ public final class Segueworks {
       int greatest = 0;
       int last = Math.min(source.length - 1, k + setting2);
       for (int j = k; j <= last; j++) {
-        greatest = Math.max(greatest, Math.abs(source[j]));
+        int amount = source[j] < 0 ? -source[j] : source[j];
+        if (amount > greatest) {
+          greatest = amount;
+        }
       }
       // The factor falls as the amount grows, so the greatest amount wants the least one.
       return greatest == 0

@@ -235,6 +235,13 @@ public final class PiecesTest {
     due.is("17 one below 10000", 300, () -> quiet.loudness(0));
     Segueworks silent = piece(99);
     due.is("17 none", 0, () -> silent.loudness(0));
+    due.is("17 a power below 10000", 0, () -> piece(100, 100, 100, 99).loudness(0));
+    // powers 10000 and 10401, their mean 10200 and a half
+    Segueworks mean = piece(100, 100, 100, 100, 100, 100, 100, 100, 176, 15, 2);
+    due.is("17 the mean is cut", 100, () -> mean.loudness(0));
+    Segueworks still = piece(0, 0, 0, 0);
+    due.is("17 of silence", 0, () -> still.loudness(0));
+    due.is("18 of silence", 0, () -> still.peak(0));
     Segueworks loud = piece(-30000, 30000);
     loud.gain(0, 400);
     due.is("17 the loudest", 32767, () -> loud.loudness(1));
