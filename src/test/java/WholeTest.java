@@ -87,10 +87,50 @@ public final class WholeTest {
 
   /** Bends one number inside the object: what no call does, so that isTrue has to tell. */
   private static void bent(Due due, String what, Segueworks x, Object row, int at) {
-    Array.setInt(row, at, Array.getInt(row, at) + 101);
-    due.is("51 with a bent " + what, false, () -> x.isTrue());
-    Array.setInt(row, at, Array.getInt(row, at) - 101);
+    for (int more : new int[] {101, -101}) {
+      Array.setInt(row, at, Array.getInt(row, at) + more);
+      due.is("51 with a bent " + what + " of " + more, false, () -> x.isTrue());
+      Array.setInt(row, at, Array.getInt(row, at) - more);
+    }
     due.is("51 without a bent " + what, true, () -> x.isTrue());
+  }
+
+  /** Bends a piece alone, so that no other one is made of it. */
+  private static void bentAlone(Due due) {
+    Segueworks x = new Segueworks();
+    x.silence(2);
+    Object samples = heldBy(Array.get(heldBy(x, "pieces"), 0), "samples");
+    bent(due, "first sample of the only piece", x, samples, 0);
+    bent(due, "last sample of the only piece", x, samples, 1);
+  }
+
+  /** "no split is above 100": 100 together is true, 101 is not. */
+  private static void bentSplit(Due due) {
+    Segueworks x = new Segueworks();
+    x.silence(1);
+    x.add(0, 0);
+    x.split(0, 0, 60);
+    x.split(0, 7, 40);
+    due.is("51 100 together", true, () -> x.isTrue());
+    Object item = Array.get(heldBy(heldBy(x, "program"), "items"), 0);
+    Array.setInt(heldBy(item, "hundredths"), 0, 61);
+    due.is("51 101 together", false, () -> x.isTrue());
+    Array.setInt(heldBy(item, "hundredths"), 0, 59);
+    due.is("51 99 together", true, () -> x.isTrue());
+  }
+
+  /** "or has fewer than 8 samples that are read". */
+  private static void fewRead(Due due) {
+    for (int many = 0; many <= 9; many++) {
+      Segueworks x = new Segueworks();
+      x.silence(9);
+      x.add(0, 0);
+      x.edition(0);
+      if (many < 9) x.damage(0, many, 9 - many);
+      String want = many < 8 ? "throws.NoSuchElementException" : "0";
+      due.is("36 itself by " + many, want, () -> x.match(0, 0));
+      due.is("51 " + many + " read", true, () -> x.isTrue());
+    }
   }
 
   private static void untruths(Due due) {
@@ -101,13 +141,19 @@ public final class WholeTest {
       bent(due, "first sample of piece " + i, x, samples, 0);
       bent(due, "last sample of piece " + i, x, samples, Array.getLength(samples) - 1);
     }
+    for (int i = 5; i < 8; i += 2) {
+      Object carries = heldBy(Array.get(pieces, i), "carries");
+      bent(due, "first factor or z of piece " + i, x, carries, 0);
+      bent(due, "last factor or z of piece " + i, x, carries, Array.getLength(carries) - 1);
+    }
     Object program = heldBy(x, "program");
     Object row = heldBy(program, "row");
     bent(due, "gap of the program", x, row, 0);
     bent(due, "sample of the program", x, row, x.startOf(0));
     bent(due, "end of the program", x, row, x.programLength() - 1);
     Object item = Array.get(heldBy(program, "items"), 2);
-    bent(due, "split", x, heldBy(item, "hundredths"), 7);
+    Array.setInt(heldBy(item, "hundredths"), 7, 101);
+    due.is("51 with a bent split", false, () -> x.isTrue());
   }
 
   private static void throwing(Due due) {
@@ -141,6 +187,9 @@ public final class WholeTest {
     sums(due);
     truths(due);
     untruths(due);
+    bentAlone(due);
+    bentSplit(due);
+    fewRead(due);
     throwing(due);
     due.end();
   }
