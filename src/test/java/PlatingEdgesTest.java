@@ -158,6 +158,11 @@ public final class PlatingEdgesTest {
     e.x.replace(0, 0);
     e.x.engrave(0, 9);
     e.is("29 the next one", 1, x -> x.father(2));
+    e.piece(0, 20000);
+    e.x.replace(0, 2);
+    e.x.engrave(0, 9);
+    e.is("28 it failed at 1", 1, x -> x.failedAt(3));
+    e.unsupported("29 it failed at 1", x -> x.father(3));
   }
 
   /** "A father gives at most 3 mothers, a mother at most 4 stampers". */

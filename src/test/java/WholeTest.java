@@ -95,6 +95,24 @@ public final class WholeTest {
     due.is("51 without a bent " + what, true, () -> x.isTrue());
   }
 
+  /** "the program is its items one behind the other", not a sample more and not one less. */
+  private static void bentLength(Due due) {
+    Segueworks x = new Segueworks();
+    x.silence(3);
+    x.add(0, 2);
+    Object program = heldBy(x, "program");
+    for (int length : new int[] {4, 6, 5}) {
+      try {
+        Field held = program.getClass().getDeclaredField("length");
+        held.setAccessible(true);
+        held.setInt(program, length);
+      } catch (ReflectiveOperationException e) {
+        throw new IllegalStateException(e);
+      }
+      due.is("51 with a program of " + length, length == 5, () -> x.isTrue());
+    }
+  }
+
   /** Bends a piece alone, so that no other one is made of it. */
   private static void bentAlone(Due due) {
     Segueworks x = new Segueworks();
@@ -187,6 +205,7 @@ public final class WholeTest {
     sums(due);
     truths(due);
     untruths(due);
+    bentLength(due);
     bentAlone(due);
     bentSplit(due);
     fewRead(due);
